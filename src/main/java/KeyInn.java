@@ -349,7 +349,9 @@ public final class KeyInn {
         beds.prepare(now, night);
         int best = NONE;
         int most = -1;
-        for (int k = 0; k < now.inn.keys; k++) {
+        // No key can be missed better than one without which as many are housed as by all.
+        int byAll = beds.mostWithout(NONE);
+        for (int k = 0; k < now.inn.keys && most < byAll; k++) {
             int housed = beds.mostWithout(k);
             if (housed > most) {
                 most = housed;

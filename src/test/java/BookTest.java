@@ -50,6 +50,10 @@ public final class BookTest {
         Due.is("row steps 2", y.steps(1, 2), 2);
         Due.is("row steps 3", y.steps(1, 3), 3);
         Due.is("row steps 5", y.steps(1, 5), 3);
+        y = Due.inn("inn rooms 3 nights 1;key 0 2;door 0 to 1;door 1 to 2;");
+        y.lose(0, true);
+        y.change(2);
+        Due.is("through all rooms", y.steps(1, 2), 3);
     }
 
     private static void guests() {

@@ -137,6 +137,16 @@ public final class HouseTest {
         Due.is("next of four", x.next(0, 0), 1);
         Due.is("next of four", x.next(0, 1), 0);
         Due.is("next of four", x.next(0, 2), 3);
+        // Two ways alone: 1 0 3 2, and then 2 3 1 0 in one ring.
+        x = Due.inn("inn rooms 2 nights 1;" + GUEST.repeat(4) + "trust 0 1 3;trust 1 0 2;trust 2 0 3;trust 3 1 2;");
+        Due.is("two ways", x.full(0), 2);
+        Due.is("fewest is the last", x.rings(0, 0), 1);
+        Due.is("most is the first", x.rings(0, 1), 2);
+        // And turned round: 1 2 3 0, and then 3 2 1 0.
+        x = Due.inn("inn rooms 2 nights 1;" + GUEST.repeat(4) + "trust 1 0 2;trust 2 1;trust 3 2 0;trust 0 3;");
+        Due.is("two ways", x.full(0), 2);
+        Due.is("fewest is the first", x.rings(0, 0), 1);
+        Due.is("most is the last", x.rings(0, 1), 2);
         StringBuilder seven = new StringBuilder("inn rooms 2 nights 1;" + GUEST.repeat(7));
         for (int g = 0; g < 7; g++) {
             seven.append("trust ").append(g);

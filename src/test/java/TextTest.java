@@ -73,7 +73,10 @@ public final class TextTest {
         Due.is("no fault", x.fault(0), 0);
         Due.is("no place", x.fault(1), -1);
         Due.is("an empty text", x.inn(), 0);
-        Due.is("is no inn", x.count(0), 0);
+        for (int what = 0; what < 6; what++) {
+            Due.is("is no inn: count(" + what + ")", x.count(what), 0);
+        }
+        Due.is("has no nights", x.bare(0), -2);
         Due.is("has no guests", x.guest(0, 0), -2);
     }
 
@@ -97,6 +100,9 @@ public final class TextTest {
         bad(HEAD + "inn", 1, 21);
         bad(HEAD + ";", 1, 21);
         bad(HEAD + "rooms 3;", 1, 21);
+        bad(HEAD + "hey 0 1;", 1, 21);
+        bad(HEAD + "keyz 0 1;", 1, 21);
+        bad(HEAD + "ke 0 1;", 1, 21);
         bad(HEAD + "\tkey 0 1;", 1, 21);
         bad(HEAD + "key 0 3", 2, 27);
         bad(HEAD + "key 1 1", 2, 27);
@@ -118,6 +124,8 @@ public final class TextTest {
         bad(HEAD + "wants 0 1;" + GUEST, 2, 27);
         bad(HEAD + GUEST + "trust 0 0;", 2, 57);
         bad(HEAD + GUEST + "trust 0 1;", 2, 57);
+        bad(HEAD + GUEST + GUEST + "trust 0 1 0;", 2, 87);
+        bad(HEAD + GUEST + GUEST + "trust 1 0 0 2;", 2, 89);
         bad(HEAD + GUEST + "trust 0;", 1, 56);
         bad(HEAD + GUEST + "wants 0;", 1, 56);
         bad(HEAD + GUEST + "wants 0 3;", 2, 57);

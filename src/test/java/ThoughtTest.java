@@ -22,6 +22,10 @@ public final class ThoughtTest {
         x.row(1, 0, 0);
         Due.is("no numbers", x.judge(1), 0);
         Due.is("no numbers", x.then(1, 0), 0);
+        x.book(3, 1, 3);
+        Due.is("nobody behind an empty row", x.then(1, 0), 0);
+        Due.is("guest 0 behind the other", x.then(0, 0), 1);
+        x.off(3);
         Due.is("guest 0 alone, then he is booked", x.judge(0), 1);
         x.write(0, 1, 10201);
         x.write(0, 2, 30103);
@@ -80,6 +84,10 @@ public final class ThoughtTest {
         x.row(1, 3, 1);
         x.write(1, 0, Long.MAX_VALUE);
         Due.is("the highest", x.judge(1), 0);
+        x.write(1, 0, 10000L << 32);
+        Due.is("a guest beyond all", x.judge(1), 0);
+        x.write(1, 0, 1L << 32);
+        Due.is("beyond four bytes", x.judge(1), 0);
         x.write(1, 0, Long.MIN_VALUE);
         Due.is("the lowest", x.judge(1), 0);
     }
@@ -90,6 +98,9 @@ public final class ThoughtTest {
         Due.is("seed too high", x.season(2000000001), -2);
         Due.is("seasons seed -1", x.seasons(-1, 1, 0), -2);
         Due.is("seasons n 0", x.seasons(0, 0, 0), -2);
+        Due.is("seasons n 0", x.seasons(5, 0, 0), -2);
+        Due.is("seasons n -1", x.seasons(5, -1, 0), -2);
+        Due.is("seasons n lowest", x.seasons(5, Integer.MIN_VALUE, 0), -2);
         Due.is("seasons n 21", x.seasons(0, 21, 0), -2);
         Due.is("seasons what 3", x.seasons(0, 1, 3), -2);
         Due.is("seasons what -1", x.seasons(0, 1, -1), -2);
