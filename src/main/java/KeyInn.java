@@ -88,12 +88,11 @@ public final class KeyInn {
     }
 
     public int inn() {
-        boolean fine = reader.readInn();
-        // Empty behind a fault, too: the next text is told from its beginning.
-        tape.length = 0;
-        if (!fine) {
+        if (!reader.readInn()) {
+            // The tape stays, too: a fault at its place can be mended by end() and feed().
             return FAULTY;
         }
+        tape.length = 0;
         now.renew(reader.draft);
         return now.inn.lines;
     }

@@ -59,6 +59,10 @@ public final class AgreeTest {
     }
 
     private void tell(int seed, String text) {
+        Due.is(seed + " bytes left", inn.count(6), plain.count(6));
+        if (random.nextInt(5) != 0) {
+            Due.is(seed + " end(0)", inn.end(0), plain.end(0));
+        }
         for (int i = 0; i < text.length(); i += 20) {
             int[] five = new int[5];
             for (int j = 0; j < 20; j++) {

@@ -98,11 +98,11 @@ final class Plain {
 
     public int inn() {
         String text = tape.toString();
-        tape.setLength(0);
         fault = 0;
         place = -1;
         try {
             s = parse(text);
+            tape.setLength(0);
             return s.lines;
         } catch (Fault f) {
             fault = f.number;
