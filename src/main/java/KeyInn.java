@@ -88,11 +88,11 @@ public final class KeyInn {
     }
 
     public int inn() {
-        if (!reader.readInn()) {
-            // The tape stays, too: a fault at its place can be mended by end() and feed().
+        boolean isFaultless = reader.readInn();
+        tape.length = 0;
+        if (!isFaultless) {
             return FAULTY;
         }
-        tape.length = 0;
         now.renew(reader.draft);
         return now.inn.lines;
     }

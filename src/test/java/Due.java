@@ -1,7 +1,10 @@
 import java.nio.charset.StandardCharsets;
+import java.util.function.IntUnaryOperator;
 
 /** What the tests share: telling a text, comparing answers, ending with the exit code. */
 final class Due {
+    /** Set ahead of what is asked in a test method of its own. */
+    private static String ahead = "";
     private static int wrong;
     private static int asked;
 
@@ -12,7 +15,35 @@ final class Due {
         asked++;
         if (got != want) {
             wrong++;
-            System.out.println(call + " answered " + got + ", due is " + want);
+            System.out.println(ahead + call + " answered " + got + ", due is " + want);
+        }
+    }
+
+    /** Names the test method that asks from now on. */
+    static void begin(String test) {
+        ahead = test.isEmpty() ? "" : test + ": ";
+    }
+
+    static int asked() {
+        return asked;
+    }
+
+    /** The least and the greatest are taken; beside them, and by a wrap of bits behind them, -2. */
+    static void bounds(String call, IntUnaryOperator answer, int least, int greatest) {
+        taken(call, answer, least);
+        taken(call, answer, greatest);
+        absent(call, answer, least - 1, greatest + 1, least - 32, least + 32 > greatest ? least + 32 : least - 64,
+                greatest + 64, Integer.MIN_VALUE, Integer.MAX_VALUE);
+    }
+
+    static void taken(String call, IntUnaryOperator answer, int argument) {
+        int got = answer.applyAsInt(argument);
+        is(call + " of " + argument + " is refused (" + got + ")", got == -2 ? 1 : 0, 0);
+    }
+
+    static void absent(String call, IntUnaryOperator answer, int... arguments) {
+        for (int argument : arguments) {
+            is(call + " of " + argument, answer.applyAsInt(argument), -2);
         }
     }
 

@@ -100,9 +100,9 @@ final class Plain {
         String text = tape.toString();
         fault = 0;
         place = -1;
+        tape.setLength(0);
         try {
             s = parse(text);
-            tape.setLength(0);
             return s.lines;
         } catch (Fault f) {
             fault = f.number;

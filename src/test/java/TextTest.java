@@ -174,11 +174,9 @@ public final class TextTest {
         Due.is("thefts stay", x.count(9), 1);
         Due.is("locks stay", x.key(0, 0), 2);
         Due.is("away stays", x.away(0, 3), -5);
-        Due.is("the tape stays", x.count(6), 29);
-        Due.is("the fault once more", x.inn(), -4);
+        Due.is("the tape is empty", x.count(6), 0);
         Due.is("at its place", x.fault(1), 25);
-        Due.is("cut ahead of it", x.end(25), 25);
-        Due.is("and mended", Due.tell(x, "0 1;" + GUEST), 3);
+        Due.is("another text, without a fault", Due.tell(x, HEAD + "key 0 1;" + GUEST), 3);
         Due.is("then the tape is empty", x.count(6), 0);
         Due.is("nobody is booked", x.count(7), 0);
         Due.is("nothing is lost", x.count(8), 0);
