@@ -419,6 +419,21 @@ final class BookEdges {
         Due.is("1 by key 3, 2 by key 4", x.still(0), 2);
     }
 
+    /** By key 0 (8 9) or key 1 (9 7): guest 0, who wants 8, can be behind the second alone. */
+    static void p19GreatRooms() {
+        KeyInn x = Due.inn("inn rooms 10 nights 1;key 8 9;key 9 7;key 8 6;" + "guest from 0 to 0 luggage 1;".repeat(2) + "wants 0 8;wants 1 9;");
+        Due.is("the first", x.first(1), 900);
+        Due.is("the second", x.give(1), 901);
+        Due.is("the first guest", x.still(1), 1);
+    }
+
+    /** Guest 1 in room 9 leaves room 8 to guest 0, though guest 1 comes there: he is trusted. */
+    static void p20OneWhoIsTrusted() {
+        KeyInn x = Due.inn("inn rooms 10 nights 1;key 8 9;key 8 6;" + "guest from 0 to 0 luggage 1;".repeat(2) + "wants 0 8;wants 1 9;trust 0 1;");
+        Due.is("give", x.give(1), 900);
+        Due.is("still", x.still(1), 1);
+    }
+
     static void p19NobodyElse() {
         KeyInn x = Due.inn("inn rooms 2 nights 1;key 0 1;guest from 0 to 0 luggage 1;");
         Due.is("give", x.give(0), 0);

@@ -74,6 +74,7 @@ final class FaultEdges {
         Due.is("0 and 2", good(HEAD + "key 0 2;", 2).key(0, 0), 5);
         Due.is("2 and 0", good(HEAD + "key 2 0;", 2).key(0, 0), 5);
         Due.is("all three", good(HEAD + "key 2 0 1;", 2).key(0, 0), 7);
+        Due.is("0 as the third", good(HEAD + "key 2 1 0;", 2).key(0, 0), 7);
         marked(HEAD + "key |3 0;", 2);
         marked(HEAD + "key 0 |3;", 2);
         marked(HEAD + "key 0 1 |3;", 2);
@@ -112,6 +113,7 @@ final class FaultEdges {
         Due.is("2", good(HEAD + GUEST + "wants 0 2;", 3).guest(0, 5), 4);
         Due.is("0", good(HEAD + GUEST + "wants 0 0;", 3).guest(0, 5), 1);
         Due.is("one twice", good(HEAD + GUEST + "wants 0 1 1;", 3).guest(0, 5), 2);
+        Due.is("0 behind another", good(HEAD + GUEST + "wants 0 1 0;", 3).guest(0, 5), 3);
         marked(HEAD + GUEST + "wants 0 |3;", 2);
         marked(HEAD + GUEST + "wants 0 0 1 2 |3;", 2);
         marked(HEAD + GUEST + "wants 0|;", 1);
@@ -173,10 +175,13 @@ final class FaultEdges {
     }
 
     static void p04TrustOfSeveralLines() {
-        KeyInn x = good(HEAD + GUEST.repeat(3) + "trust 0 1;trust 0 2;trust 0 1 1 2;", 7);
+        KeyInn x = good(HEAD + GUEST.repeat(3) + "trust 0 1;trust 0 2;", 6);
         Due.is("1", x.trusts(0, 1), 1);
         Due.is("2", x.trusts(0, 2), 1);
         Due.is("not back", x.trusts(1, 0), 0);
+        x = good(HEAD + GUEST.repeat(3) + "trust 0 1;trust 0 1 1;", 6);
+        Due.is("once more", x.trusts(0, 1), 1);
+        Due.is("not 2", x.trusts(0, 2), 0);
     }
 
     static void p04WantsOfSeveralLines() {
@@ -242,6 +247,8 @@ final class FaultEdges {
         marked("inn |roomss 3 nights 4;", 1);
         marked("inn rooms 3 |zights 4;", 1);
         marked(HEAD + "|keys 0 1;", 1);
+        marked(HEAD + "|keya 0 1;", 1);
+        marked(HEAD + "|keyz 0 1;", 1);
         marked(HEAD + "|azaz", 1);
         marked(HEAD + "|in", 1);
         marked(HEAD + "|want 0 1;", 1);

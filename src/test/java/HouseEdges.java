@@ -54,6 +54,31 @@ final class HouseEdges {
         Due.is("0's trust does not help", Due.inn(two + "trust 0 1;").most(0), 1);
     }
 
+    /** Three rooms by one key: he comes to each of them, not to the last one alone. */
+    static void p21FearInEachRoom() {
+        for (int r = 1; r <= 2; r++) {
+            KeyInn x = Due.inn("inn rooms 5 nights 1;key 0 1 2;key 1 3;key 2 4;" + GUEST.repeat(2) + "wants 0 0;wants 1 " + r + ";");
+            Due.is("room " + r, x.most(0), 1);
+        }
+        KeyInn x = Due.inn("inn rooms 4 nights 1;key 0 1;key 2 3;" + GUEST.repeat(2) + "wants 0 2;wants 1 0;");
+        Due.is("apart", x.most(0), 2);
+        Due.is("the second has the first room", x.lay(0, 1), 0);
+    }
+
+    static void p21GuestsOfThatNightAlone() {
+        KeyInn x = Due.inn("inn rooms 10 nights 2;key 0 1;key 2 3;key 4 5;key 6 7;guest from 1 to 1 luggage 1;" + GUEST.repeat(4));
+        Due.is("four, not the first", x.most(0), 4);
+        Due.is("the first alone", x.most(1), 1);
+    }
+
+    /** What was found for one inn does not stay for another one. */
+    static void p21AnotherInn() {
+        KeyInn x = Due.inn("inn rooms 2 nights 1;key 0 1;key 0 1;" + GUEST.repeat(2) + "trust 0 1;trust 1 0;");
+        Due.is("friends", x.most(0), 2);
+        Due.tell(x, "inn rooms 2 nights 1;key 0 1;key 0 1;" + GUEST.repeat(2));
+        Due.is("strangers", x.most(0), 1);
+    }
+
     // ---- ways ----
 
     static void p22Nobody() {
@@ -224,6 +249,23 @@ final class HouseEdges {
         Due.is("two", x.full(2), 0);
     }
 
+    static void p25AskedAgain() {
+        KeyInn x = Due.inn(friends(4));
+        Due.is("once", x.full(0), 9);
+        Due.is("twice", x.full(0), 9);
+        Due.tell(x, "inn rooms 2 nights 1;" + GUEST.repeat(4) + "trust 0 1;trust 1 0;trust 2 3;trust 3 2;");
+        Due.is("of another inn", x.full(0), 1);
+        Due.tell(x, "inn rooms 2 nights 1;" + GUEST.repeat(2));
+        Due.is("strangers", x.full(0), 0);
+    }
+
+    static void p25NotTheFirst() {
+        KeyInn x = Due.inn("inn rooms 2 nights 2;guest from 1 to 1 luggage 1;" + GUEST);
+        Due.is("one, not the first", x.full(0), -3);
+        x = Due.inn("inn rooms 2 nights 2;guest from 1 to 1 luggage 1;" + GUEST.repeat(7));
+        Due.is("seven, not the first", x.full(0), 0);
+    }
+
     static void p25NoWay() {
         Due.is("strangers", Due.inn("inn rooms 2 nights 1;" + GUEST.repeat(2)).full(0), 0);
         Due.is("one trusts", Due.inn("inn rooms 2 nights 1;" + GUEST.repeat(2) + "trust 0 1;").full(0), 0);
@@ -245,6 +287,19 @@ final class HouseEdges {
         KeyInn seven = Due.inn(friends(7));
         Due.is("seven: fewest", seven.rings(0, 0), 1);
         Due.is("seven: most", seven.rings(0, 1), 3);
+    }
+
+    static void p26FewestAndMostWhereverTheyAre() {
+        // Two ways: 1 0 3 2 in two rings, and then 2 3 1 0 in one.
+        KeyInn x = Due.inn("inn rooms 2 nights 1;" + GUEST.repeat(4) + "trust 0 1 3;trust 1 0 2;trust 2 0 3;trust 3 1 2;");
+        Due.is("two ways", x.full(0), 2);
+        Due.is("fewest is the last", x.rings(0, 0), 1);
+        Due.is("most is the first", x.rings(0, 1), 2);
+        // Two ways: 1 2 3 0 in one ring, and then 3 2 1 0 in two.
+        x = Due.inn("inn rooms 2 nights 1;" + GUEST.repeat(4) + "trust 1 0 2;trust 2 1;trust 3 2 0;trust 0 3;");
+        Due.is("two ways", x.full(0), 2);
+        Due.is("fewest is the first", x.rings(0, 0), 1);
+        Due.is("most is the last", x.rings(0, 1), 2);
     }
 
     static void p26NoWays() {

@@ -137,6 +137,7 @@ final class KeepEdges {
         x.away(3, 7);
         Due.tell(x, "inn rooms 2 nights 1;key 0 1;guest from 0 to 0 luggage 0;");
         x.book(0, 1, 0);
+        x.theft(1, 0);
         Due.is("back", x.back(0), 0);
         int[] due = {10, 20, 12, 8, 9, 32, 0, 1, 2, 1, 0};
         for (int what = 0; what <= 10; what++) {
@@ -151,7 +152,13 @@ final class KeepEdges {
         Due.is("luggage", x.guest(0, 4), 99);
         Due.is("away then", x.away(3, 6), -5);
         Due.is("not away then", x.away(3, 7), 0);
-        Due.is("the theft: room 4 by the doors", x.could(0), 1);
+        Due.is("the theft from room 4, by the doors", x.could(0), 1);
+        x.off(0);
+        x.book(5, 4, 4);
+        Due.is("who sleeps in room 4", x.could(0), 0);
+        x.away(0, 5);
+        x.book(0, 0, 0);
+        Due.is("who was away on night 5", x.could(0), 0);
     }
 
     static void p54OftenAsOneLikes() {

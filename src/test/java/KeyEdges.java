@@ -160,6 +160,29 @@ final class KeyEdges {
         Due.is("0 to 8, by two", x.steps(512 | 1, 8), 8);
     }
 
+    /** Nine rooms in a row by eight doors, and a key that opens the first alone now. */
+    private static KeyInn inARow() {
+        StringBuilder text = new StringBuilder("inn rooms 9 nights 1;key 0 8;");
+        for (int d = 0; d < 8; d++) {
+            text.append("door ").append(d).append(" to ").append(d + 1).append(';');
+        }
+        KeyInn x = Due.inn(text.toString());
+        x.lose(0, true);
+        x.change(8);
+        return x;
+    }
+
+    static void p08ThroughAllRooms() {
+        KeyInn x = inARow();
+        for (int r = 0; r < 9; r++) {
+            Due.is("room " + r, x.steps(1, r), r + 1);
+        }
+    }
+
+    static void p07ThroughAllRooms() {
+        Due.is("reach", inARow().reach(1), 511);
+    }
+
     static void p08OneCant() {
         KeyInn x = Due.inn(FULL);
         Due.is("no door leads there", x.steps(1, 9), -1);

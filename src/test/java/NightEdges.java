@@ -112,6 +112,12 @@ final class NightEdges {
         Due.is("ten", keys("key 0 1;key 1 2;key 2 3;key 3 4;key 4 5;key 5 6;key 6 7;key 7 8;key 8 9;key 9 0;").loops(), 1);
     }
 
+    /** The keys of a ring may stand in any order. */
+    static void p42AnyOrder() {
+        Due.is("five", keys("key 0 1;key 2 3;key 3 4;key 1 2;key 4 0;").loops(), 1);
+        Due.is("six", keys("key 0 1;key 3 4;key 2 3;key 4 5;key 1 2;key 5 0;").loops(), 1);
+    }
+
     static void p42FiveRings() {
         Due.is("five", keys("key 0 1;key 2 3;key 4 5;key 6 7;key 8 9;key 0 1;key 2 3;key 4 5;key 6 7;key 8 9;").loops(), 5);
         Due.is("and one key more in one", keys("key 0 1;key 2 3;key 4 5;key 6 7;key 8 9;key 0 1;key 2 3;key 4 5;key 6 7;key 8 9;key 8 9;").loops(), 4);

@@ -265,7 +265,7 @@ final class TextEdges {
     }
 
     static void p04InPlaceOfAnother() {
-        KeyInn x = Due.inn(KeyEdges.FULL);
+        KeyInn x = Due.inn(KeyEdges.FULL + "trust 0 1;trust 1 0;wants 0 9;");
         Due.is("a smaller one", Due.tell(x, "inn rooms 2 nights 1;key 0 1;guest from 0 to 0 luggage 0;"), 3);
         int[] due = {2, 1, 1, 0, 1, 3};
         for (int what = 0; what < due.length; what++) {
@@ -276,6 +276,15 @@ final class TextEdges {
         Due.is("no trust is left", Due.tell(x, "inn rooms 2 nights 1;" + GUEST.replace('1', '0').repeat(2)), 3);
         Due.is("no trust is left", x.trusts(0, 1) + x.trusts(1, 0), 0);
         Due.is("all rooms are wanted", x.guest(0, 5), 3);
+    }
+
+    static void p04NoWantsAreLeft() {
+        KeyInn x = Due.inn(HEAD + GUEST + "wants 0 1;");
+        Due.is("another one", Due.tell(x, HEAD + GUEST + "wants 0 2;"), 3);
+        Due.is("wants", x.guest(0, 5), 4);
+        Due.is("a faulty one", Due.tell(x, HEAD + GUEST + "wants 0 0;?"), -4);
+        Due.is("another one", Due.tell(x, HEAD + GUEST + "wants 0 1;"), 3);
+        Due.is("wants", x.guest(0, 5), 2);
     }
 
     // ---- "nobody is BOOKED, no KEY is LOST, no LOCK changed, there are no THEFTS, nobody was AWAY" ----

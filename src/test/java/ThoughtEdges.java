@@ -42,6 +42,8 @@ final class ThoughtEdges {
         KeyInn x = Due.inn(FULL);
         Due.is("guest 8, room 9, key 9", with(x, 2, 80909).judge(0), 1);
         Due.is("guest 8, room 2, key 11", with(x, 3, 80211).judge(0), 1);
+        Due.is("guest 8, room 0, key 0", with(x, 2, 80000).judge(0), 1);
+        Due.is("guest 1, and then guest 0", with(x, 2, 10000, 101).judge(0), 2);
         Due.is("no guest 9", with(x, 2, 90909).judge(0), 0);
         Due.is("no room 10", with(x, 2, 81009).judge(0), 0);
         Due.is("no key 12", with(x, 2, 80212).judge(0), 0);
@@ -238,6 +240,27 @@ final class ThoughtEdges {
         x.off(0);
         x.season(7);
         Due.is("he is not booked by it", x.count(7), 6);
+    }
+
+    /** Guest 0, who is booked, draws nothing and stays where he is; so guest 1's draw is the first. */
+    static void p50WhoIsBookedStays() {
+        KeyInn x = Due.inn("inn rooms 10 nights 1;key 8 9;key 0 1;key 0 2;key 1 5;" + GUEST.repeat(3) + "wants 1 0;wants 2 1;trust 1 2;");
+        x.book(0, 9, 0);
+        Due.is("ways", x.fits(1), 2);
+        for (int seed = 0; seed < 40; seed++) {
+            // By key 1 (0 1) guest 1 comes to room 1, so 2 is not housed there; by key 2 (0 2) he is.
+            Due.is("seed " + seed, x.season(seed), 2 + drawn(step(seed), 2));
+        }
+        Due.is("where he was", x.guest(0, 0), 9);
+    }
+
+    /** The way drawn tells a room as it is: in room 8 he bars the second guest, in room 9 he does not. */
+    static void p50GreatRooms() {
+        KeyInn x = Due.inn("inn rooms 10 nights 1;key 8 9;key 9 8 7;" + GUEST.repeat(2) + "wants 0 8 9;wants 1 8;trust 0 1;trust 1 0;");
+        Due.is("ways", x.fits(0), 4);
+        for (int seed = 0; seed < 40; seed++) {
+            Due.is("seed " + seed, x.season(seed), drawn(step(seed), 4) < 2 ? 1 : 2);
+        }
     }
 
     // ---- seasons: "Of n (1 .. 20) from seeds, the seed and 1, .., what 0: .., 1: the most, 2: the fewest" ----
