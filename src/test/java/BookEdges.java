@@ -160,6 +160,9 @@ final class BookEdges {
     static void p12SuchGuests() {
         KeyInn x = Due.inn(FULL);
         Due.bounds("off", x::off, 0, 8);
+        x.book(4, 4, 4);
+        Due.absent("off", x::off, -1, 9, 36, Integer.MAX_VALUE);
+        Due.is("who is booked stays so", x.guest(4, 1), 4);
         Due.is("no guests", Due.inn(TextEdges.HEAD).off(0), -2);
     }
 

@@ -29,6 +29,7 @@ final class LostEdges {
         KeyInn x = Due.inn(FULL);
         Due.bounds("lost", k -> x.lose(k, true), 0, 11);
         Due.bounds("found", k -> x.lose(k, false), 0, 11);
+        Due.is("none is lost", x.count(8), 0);
         Due.is("no keys", Due.inn(TextEdges.HEAD).lose(0, true), -2);
         Due.is("no keys", Due.inn(TextEdges.HEAD).lose(0, false), -2);
     }
@@ -203,6 +204,10 @@ final class LostEdges {
     static void p33SuchRooms() {
         Due.bounds("change", Due.inn(FULL)::change, 0, 9);
         Due.bounds("change", Due.inn("inn rooms 2 nights 1;")::change, 0, 1);
+        KeyInn x = Due.inn("inn rooms 3 nights 1;key 0 2;");
+        x.lose(0, true);
+        Due.absent("change", x::change, -1, 3, 32, 34, Integer.MIN_VALUE);
+        Due.is("it opens as before", x.key(0, 0), 5);
     }
 
     // ---- fewest: "how many (what 0), which (what 1: the least set, as bits). -2: there are none such, no INN" ----

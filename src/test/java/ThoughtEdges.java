@@ -121,6 +121,96 @@ final class ThoughtEdges {
         Due.is("no inn ahead of it", new KeyInn().judge(0), -2);
     }
 
+    /** All that can be asked of an inn as numbers, one behind the other. */
+    private static int[] stateOf(KeyInn x) {
+        int[] state = new int[400];
+        int n = 0;
+        for (int what = 0; what <= 10; what++) {
+            state[n++] = x.count(what);
+        }
+        for (int g = 0; g < x.count(4); g++) {
+            for (int what = 0; what <= 5; what++) {
+                state[n++] = x.guest(g, what);
+            }
+        }
+        for (int k = 0; k < x.count(2); k++) {
+            for (int what : new int[] {0, 1, 10, 29}) {
+                state[n++] = x.key(k, what);
+            }
+            state[n++] = x.reach(1 << k);
+        }
+        for (int i = 0; i < x.count(9); i++) {
+            state[n++] = x.could(i);
+        }
+        for (int night = 0; night < 20; night++) {
+            state[n++] = x.unsafe(night, 1);
+            state[n++] = x.bare(night);
+        }
+        state[n++] = x.judge(0);
+        state[n++] = x.fault(0);
+        return state;
+    }
+
+    private static void askAll(KeyInn x, int night) {
+        for (int g = 0; g < 9; g++) {
+            x.fits(g);
+            x.first(g);
+            x.give(g);
+            x.still(g);
+            x.lay(night, g);
+            x.next(night, g);
+            x.swap(g, 8 - g, night);
+        }
+        for (int what = 0; what <= 1; what++) {
+            x.rings(night, what);
+            x.fewest(night, what);
+            x.gang(what);
+            x.round(what);
+            x.rounds(511, what);
+            x.leave(night, what);
+            x.shut(night, what);
+            x.seasons(3, 5, what);
+        }
+        x.most(night);
+        x.ways(night);
+        x.spare(night);
+        x.full(night);
+        x.worst(night);
+        x.harm(3, night);
+        x.risk(night);
+        x.loops();
+        x.all();
+        x.calm();
+        x.open();
+        x.season(9);
+        x.judge(0);
+        x.then(0, night);
+    }
+
+    /** What is asked or done in thought alone leaves the inn as it was. */
+    static void p48QuestionsChangeNothing() {
+        KeyInn x = Due.inn(FULL.replace("from 0 to 19", "from 0 to 9") + "trust 0 1 2 3;trust 1 0;wants 5 5 6;");
+        x.book(0, 0, 0);
+        x.book(1, 4, 4);
+        x.book(2, 9, 9);
+        x.lose(4, true);
+        x.lose(11, true);
+        x.change(4);
+        x.theft(1, 1);
+        x.theft(2, 9);
+        x.away(1, 1);
+        with(x, 2, 30303, 50505, 99);
+        int[] before = stateOf(x);
+        askAll(x, 0);
+        askAll(x, 9);
+        askAll(x, 15);
+        askAll(x, 20);
+        int[] after = stateOf(x);
+        for (int i = 0; i < before.length; i++) {
+            Due.is("state " + i, after[i], before[i]);
+        }
+    }
+
     // ---- then: "-2 likewise, no such NIGHT; -6 likewise" ----
 
     static void p49NoneAndAll() {
